@@ -40,7 +40,7 @@ public final class PairedTexts {
     public int write(int d, long bytes, int n) throws IllegalArgumentException, UnsupportedOperationException {
         Text text = textOf(d);
         requireArgument(n >= 1 && n <= BYTES_OF_A_NUMBER);
-        requireRoom((long) text.size + n);
+        requireRoom(text.size + n);
         for (int k = 0; k < n; k++) {
             text.add(byteOf(bytes, k));
         }
@@ -70,7 +70,7 @@ public final class PairedTexts {
         Text first = textOf(d);
         Text second = textOf(e);
         requireDocument(g);
-        requireRoom((long) first.size + second.size);
+        requireRoom(first.size + second.size);
         draft.clear();
         draft.addRange(first, 0, first.size);
         draft.addRange(second, 0, second.size);
@@ -82,7 +82,7 @@ public final class PairedTexts {
         Text text = textOf(d);
         Text source = textOf(e);
         requireInside(source.hasRange(from, to) && text.hasPiece(at));
-        requireRoom((long) text.size + (to - from));
+        requireRoom(text.size + (to - from));
         draft.clear();
         draft.addRange(text, 0, at);
         draft.addRange(source, from, to);

@@ -13,10 +13,6 @@ final class PlainTexts {
     private final boolean[] accepts = new boolean[8];
     private String pattern = null;
 
-    String text(int d) {
-        return texts[d];
-    }
-
     int write(int d, long bytes, int n) {
         illegalIf(noDocument(d) || n < 1 || n > 8);
         unsupportedIf(texts[d].length() + n > 1000);

@@ -276,6 +276,8 @@ public final class PromisesTest {
         PairedTexts x = with("abcde", "xyz");
         due.is("9 length", 5, () -> x.move(0, 0, 2, 3));
         due.is("9 texts", "cdeab|xyz||", () -> all(x));
+        due.is("9 length of another", 3, () -> x.move(1, 2, 3, 0));
+        due.is("9 another", "cdeab|zxy||", () -> all(x));
         for (int at : new int[] {-1, 4, 5, MIN, MAX}) {
             due.fails("9 at " + at, BOUNDS, () -> x.move(0, 1, 3, at));
         }
@@ -287,7 +289,7 @@ public final class PromisesTest {
         for (int[] r : rangesNotIn()) {
             due.fails("9 range " + r[0] + " .. " + r[1], BOUNDS, () -> y.move(0, r[0], r[1], 0));
         }
-        due.is("9 nothing changed", "cdeab|xyz||ab|||", () -> all(x) + all(y));
+        due.is("9 nothing changed", "cdeab|zxy||ab|||", () -> all(x) + all(y));
     }
 
     private static String moved(String text, int from, int to, int at) {
@@ -373,7 +375,13 @@ public final class PromisesTest {
         x.delete(0, 3, 6);
         x.write(1, 'a', 1);
         due.is("12 what was taken out does not count", 3, () -> x.prefix(0, 0, 1, 1));
+        due.is("12 the end of the longer one", 0, () -> x.prefix(0, 0, 1, 5));
+        due.is("12 the end of the shorter one", 0, () -> x.prefix(1, 5, 0, 3));
         piecesThatAreNone("12", x, (d, i, e, j) -> x.prefix(d, i, e, j));
+
+        PairedTexts zeros = with("\0\0", "\0\0\0\0");
+        due.is("12 bytes 0 to the end of the first", 1, () -> zeros.prefix(0, 1, 1, 0));
+        due.is("12 bytes 0 to the end of the second", 1, () -> zeros.prefix(1, 0, 0, 1));
     }
 
     private interface Pieces {
