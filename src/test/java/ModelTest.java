@@ -46,7 +46,8 @@ public final class ModelTest {
             long bytes = bytes();
             int n = below(126);
             answer(where + " first write", () -> plain.write(document, bytes, 8), () -> real.write(document, bytes, 8));
-            answer(where + " first repeat", () -> plain.repeat(document, 0, 8, n), () -> real.repeat(document, 0, 8, n));
+            answer(where + " first repeat", () -> plain.repeat(document, 0, 8, n),
+                    () -> real.repeat(document, 0, 8, n));
         }
         long low = bytes();
         int n = 1 + below(2);
@@ -100,7 +101,8 @@ public final class ModelTest {
             case 5, 6 -> answer(where + " join", () -> plain.join(d, e, g), () -> real.join(d, e, g));
             case 7, 8 -> {
                 int at = place(e);
-                answer(where + " insert", () -> plain.insert(e, at, d, from, to), () -> real.insert(e, at, d, from, to));
+                answer(where + " insert", () -> plain.insert(e, at, d, from, to),
+                        () -> real.insert(e, at, d, from, to));
             }
             case 9 -> answer(where + " delete", () -> plain.delete(d, from, to), () -> real.delete(d, from, to));
             case 10, 11 -> {

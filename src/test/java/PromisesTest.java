@@ -77,7 +77,8 @@ public final class PromisesTest {
 
     /** A range of ab (length 2) that is not in it, for each way in which it can be. */
     private static int[][] rangesNotIn() {
-        return new int[][] {{-1, 1}, {0, 3}, {2, 1}, {3, 3}, {-1, -1}, {MIN, MAX}, {0, MAX}, {MAX, MIN}, {MAX, MAX}, {MIN, 0}};
+        return new int[][] {{-1, 1}, {0, 3}, {2, 1}, {3, 3}, {-1, -1}, {MIN, MAX}, {0, MAX}, {MAX, MIN}, {MAX, MAX},
+                {MIN, 0}};
     }
 
     private static void newObject() {
